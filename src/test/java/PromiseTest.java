@@ -529,6 +529,9 @@ public final class PromiseTest {
         due("drift behind the leg", 5, () -> driftAt(33, 14, 10, 10, 30, 10));
         due("drift rounded down before the leg", 5, () -> driftAt(5, 13, 10, 10, 30, 10));
         due("drift from a slanted leg", 7, () -> driftAt(10, 0, 0, 0, 10, 10));
+        due("drift from a steep leg", 12, () -> driftAt(20, 30, 0, 0, 40, 30));
+        due("drift on the other side of a steep leg", 13, () -> driftAt(35, 10, 0, 0, 40, 30));
+        due("drift behind a steep leg", 5, () -> driftAt(23, 34, 10, 10, 20, 30));
         due("drift from a leg without length", 5, () -> driftAt(13, 14, 10, 10, 10, 10));
         due("greatest drift", 140, () -> driftAt(99, 99, 0, 0, 0, 0));
 
@@ -644,6 +647,8 @@ public final class PromiseTest {
         TrailGuide g = diamond();
         due("writeTrails 3", 9, () -> g.writeTrails(3));
         due("the trails' line", "-1=5-2=15", () -> lineOf(g, 9));
+        due("writeTrails 1", 9, () -> g.writeTrails(1));
+        due("the trails' line with waypoint 0", "-0=20-3=5", () -> lineOf(g, 9));
         due("writeTrails -1", INDEX, () -> g.writeTrails(-1));
         due("writeTrails 5", INDEX, () -> g.writeTrails(5));
         due("the line stays", '-', () -> g.charAt(0));
