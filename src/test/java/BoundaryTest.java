@@ -7,8 +7,6 @@ import java.util.Map;
 import java.util.Set;
 import java.util.TreeMap;
 import java.util.TreeSet;
-import java.util.regex.Matcher;
-import java.util.regex.Pattern;
 import java.util.stream.Stream;
 
 /**
@@ -16,13 +14,9 @@ import java.util.stream.Stream;
  * tells their form), and tests that no sentence lacks its rows.
  */
 public final class BoundaryTest {
-    private static final Pattern ROW = Pattern.compile("(\\w+\\(.*?\\))(?: (==|=|!) (.*))?");
-    private static final Pattern REPEATED = Pattern.compile("repeat (\\d+) (.*)");
-    private static final Pattern COUNTER = Pattern.compile("#(?:([+*])(\\d+))?");
-
     private static final Check CHECK = new Check();
 
-    private final Map<String, List<String>> fixtures;
+    private final Map<String, List<Row>> fixtures;
     private final Map<String, Set<String>> quoted = new TreeMap<>();
     private final Sentences document;
     private String heading = "";
@@ -32,20 +26,17 @@ public final class BoundaryTest {
     private List<Call> past = new ArrayList<>();
     private Player player = new Player(past);
     private Model model = new Model();
-    private List<String> unchanged;
+    private List<String> whole;
 
-    private BoundaryTest(Map<String, List<String>> fixtures, Sentences document) {
+    private BoundaryTest(Map<String, List<Row>> fixtures, Sentences document) {
         this.fixtures = fixtures;
         this.document = document;
     }
 
     public static void main(String[] args) throws IOException {
-        Path folder = Path.of(args[0]).resolve("src/test/boundaries");
+        Path folder = Fixtures.folder(args[0]);
         BoundaryTest test = new BoundaryTest(Fixtures.read(folder), new Sentences(Path.of(args[1]).resolve("DOC.md")));
-        for (String name : test.fixtures.keySet()) {
-            test.place = "fixture " + name;
-            test.begin(name);
-        }
+        test.fixtures.keySet().forEach(test::begin);
         try (Stream<Path> files = Files.list(folder)) {
             for (Path file : files.sorted().toList()) {
                 if (!file.endsWith(Fixtures.FILE)) {
@@ -71,38 +62,33 @@ public final class BoundaryTest {
         for (int i = 0; i < rows.size(); i++) {
             place = file.getFileName() + ":" + (i + 1);
             try {
-                playRow(rows.get(i));
-            } catch (RuntimeException e) {
-                CHECK.due(place + " " + rows.get(i), "a row that can be played", () -> e);
+                playLine(rows.get(i));
+            } catch (IllegalArgumentException e) {
+                CHECK.due(place, "a row", () -> e.getMessage());
             }
         }
         endSentence();
     }
 
-    private void playRow(String row) {
-        if (row.isEmpty() || row.startsWith("//")) {
+    private void playLine(String text) {
+        if (text.isEmpty() || text.startsWith("//")) {
             return;
         }
-        if (row.startsWith("# ")) {
+        if (text.startsWith("# ")) {
             endSentence();
-            heading = row.substring(2);
-        } else if (row.startsWith("> ")) {
+            heading = text.substring(2);
+        } else if (text.startsWith("> ")) {
             endSentence();
-            quote(row.substring(2));
-        } else if (row.equals("no boundary")) {
+            quote(text.substring(2));
+        } else if (text.equals("no boundary")) {
             CHECK.due(place + " only a term may lack a boundary", "Terms", () -> heading);
             hasRows = true;
-        } else if (row.equals("new") || row.startsWith("new ")) {
-            begin(row.substring(3).strip());
+        } else if (text.equals("new") || text.startsWith("new ")) {
+            begin(text.substring(3).strip());
         } else {
+            Row.of(text).forEach(this::test);
             hasRows = true;
-            playCalls(row);
         }
-    }
-
-    private void endSentence() {
-        CHECK.due(place + " the sentence above has rows", true, () -> hasRows);
-        hasRows = true;
     }
 
     private void quote(String sentence) {
@@ -111,102 +97,80 @@ public final class BoundaryTest {
         hasRows = false;
     }
 
+    private void endSentence() {
+        CHECK.due(place + " the sentence above has rows", true, () -> hasRows);
+        hasRows = true;
+    }
+
     private void begin(String fixture) {
         past = new ArrayList<>();
         player = new Player(past);
         model = new Model();
-        unchanged = null;
-        if (!fixture.isEmpty()) {
-            fixtures.get(fixture).forEach(row -> playEach(row, false));
+        whole = null;
+        for (Row row : fixtures.get(fixture)) {
+            compare(row, "fixture " + fixture);
+            keep(row);
         }
     }
 
-    private void playCalls(String row) {
-        playEach(row, true);
-    }
-
-    private void playEach(String row, boolean isTested) {
-        Matcher repeated = REPEATED.matcher(row);
-        int times = repeated.matches() ? Integer.parseInt(repeated.group(1)) : 1;
-        String text = repeated.matches() ? repeated.group(2) : row;
-        for (int i = 0; i < times; i++) {
-            int counter = i;
-            playOne(repeated.matches() ? COUNTER.matcher(text).replaceAll(m -> valueOf(m, counter)) : text, isTested);
+    private void test(Row row) {
+        boolean isThrown = row.kind() == Row.Kind.THROWS;
+        if (isThrown && row.call().name().equals("run")) {
+            changesOnlyTheBuffer(row);
+        } else if (isThrown || row.kind() == Row.Kind.ANSWERS_ONLY) {
+            changesNothing(row.call());
+        }
+        compare(row, place);
+        // What changes nothing need not be called again to come to the same state.
+        if (!isThrown && row.kind() != Row.Kind.ANSWERS_ONLY || row.call().name().equals("run")) {
+            keep(row);
         }
     }
 
-    private static String valueOf(java.util.regex.MatchResult found, int counter) {
-        int by = found.group(2) == null ? 0 : Integer.parseInt(found.group(2));
-        return String.valueOf("*".equals(found.group(1)) ? counter * by : counter + by);
+    private void keep(Row row) {
+        if (row.kind() != Row.Kind.LINE) {
+            past.add(row.call());
+            whole = null;
+        }
     }
 
-    private void playOne(String row, boolean isTested) {
-        if (row.startsWith("text ")) {
-            typeText(Call.withSigns(row.substring(6, row.length() - 1)));
+    private void compare(Row row, String where) {
+        if (row.kind() == Row.Kind.LINE) {
+            CHECK.due(where + " line", row.want(), () -> player.reader().line());
             return;
         }
-        if (row.startsWith("line = ")) {
-            String want = row.substring(7);
-            CHECK.due(place + " line", want, () -> "\"" + player.line() + "\"");
-            return;
-        }
-        Matcher parts = ROW.matcher(row);
-        if (!parts.matches()) {
-            throw new IllegalArgumentException("not a row");
-        }
-        Call call = Call.of(parts.group(1));
-        String kind = parts.group(2) == null ? "" : parts.group(2);
-        String want = kind.equals("!") ? parts.group(3) + "Exception" : parts.group(3);
-        if (isTested && (kind.equals("!") || kind.equals("=="))) {
-            changesNothing(call, want);
-        }
-        String answer = makeCall(call);
-        if (kind.isEmpty()) {
-            CHECK.due(place + " " + call + " is done", false, () -> answer.endsWith("Exception"));
-        } else {
-            CHECK.due(place + " " + call, want, () -> answer);
-        }
-        // What changes nothing is not played again, but a run that throws has emptied the buffer.
-        if (!isTested || kind.isEmpty() || kind.equals("=") || call.name().equals("run")) {
-            past.add(call);
-            unchanged = null;
-        }
-    }
-
-    private String makeCall(Call call) {
+        Call call = row.call();
         String answer = player.answer(call);
-        CHECK.due(place + " " + call + " by the model", answer,
-                () -> model.call(call.name(), call.number(0), call.number(1), call.number(2)));
-        return answer;
-    }
-
-    private void typeText(String text) {
-        for (char sign : text.toCharArray()) {
-            Call call = new Call("type", sign);
-            String answer = makeCall(call);
-            CHECK.due(place + " " + call + " is done", false, () -> answer.endsWith("Exception"));
-            past.add(call);
-            unchanged = null;
+        CHECK.due(where + " " + call + " in the model", answer, () -> model.answer(call));
+        if (row.kind() == Row.Kind.DONE) {
+            CHECK.due(where + " " + call + " is refused", false, () -> answer.endsWith("Exception"));
+        } else {
+            CHECK.due(where + " " + call, row.want(), () -> answer);
         }
     }
 
-    private void changesNothing(Call call, String want) {
+    private List<Call> with(Call call) {
         List<Call> longer = new ArrayList<>(past);
         longer.add(call);
-        if (call.name().equals("run")) {
-            String recorded = want.startsWith("IllegalArgument") ? "errorPosition: " : "failedCommand: ";
-            same(call, without(recorded, Whole.withoutBuffer(past)), without(recorded, Whole.withoutBuffer(longer)));
-            CHECK.due(place + " the buffer is empty", "1", () -> new Player(longer).answer(Call.of("type('x')")));
-            return;
+        return longer;
+    }
+
+    private void changesNothing(Call call) {
+        Player one = new Player(past);
+        List<String> before = one.reader().visible();
+        one.answer(call);
+        same(call, before, one.reader().visible());
+        if (whole == null) {
+            whole = Whole.behind(past);
         }
-        Player reader = new Player(past);
-        List<String> before = reader.visible();
-        reader.answer(call);
-        same(call, before, reader.visible());
-        if (unchanged == null) {
-            unchanged = Whole.behind(past);
-        }
-        same(call, unchanged, Whole.behind(longer));
+        same(call, whole, Whole.behind(with(call)));
+    }
+
+    private void changesOnlyTheBuffer(Row row) {
+        Call call = row.call();
+        String recorded = row.want().equals("IllegalArgumentException") ? "errorPosition: " : "failedCommand: ";
+        same(call, without(recorded, Whole.withoutBuffer(past)), without(recorded, Whole.withoutBuffer(with(call))));
+        CHECK.due(place + " the buffer is empty", 1, () -> new Player(with(call)).answer(Call.of("type('x')")));
     }
 
     private static List<String> without(String name, List<String> rows) {
@@ -214,10 +178,10 @@ public final class BoundaryTest {
     }
 
     private void same(Call call, List<String> before, List<String> after) {
-        CHECK.due(place + " " + call + " leaves as many rows", before.size(), () -> after.size());
+        CHECK.due(place + " " + call + " leaves so many rows", before.size(), () -> after.size());
         for (int i = 0; i < Math.min(before.size(), after.size()); i++) {
             String row = after.get(i);
-            CHECK.due(place + " " + call + " changes nothing", before.get(i), () -> row);
+            CHECK.due(place + " " + call + " leaves", before.get(i), () -> row);
         }
     }
 }

@@ -13,9 +13,15 @@ final class Fixtures {
     private Fixtures() {
     }
 
-    static Map<String, List<String>> read(Path folder) throws IOException {
-        Map<String, List<String>> fixtures = new LinkedHashMap<>();
-        List<String> rows = new ArrayList<>();
+    /** The folder of the files in which the rows stand. */
+    static Path folder(String root) {
+        return Path.of(root).resolve("src/test/boundaries");
+    }
+
+    static Map<String, List<Row>> read(Path folder) throws IOException {
+        Map<String, List<Row>> fixtures = new LinkedHashMap<>();
+        List<Row> rows = new ArrayList<>();
+        fixtures.put("", rows);
         for (String row : Files.readAllLines(folder.resolve(FILE))) {
             if (row.startsWith("fixture ")) {
                 rows = new ArrayList<>();
@@ -23,7 +29,7 @@ final class Fixtures {
             } else if (row.startsWith("use ")) {
                 rows.addAll(fixtures.get(row.substring(4)));
             } else if (!row.isEmpty() && !row.startsWith("//")) {
-                rows.add(row);
+                rows.addAll(Row.of(row));
             }
         }
         return fixtures;

@@ -67,8 +67,13 @@ final class Model {
         return Pattern.compile("(?:" + any + ")(?:;(?:" + any + "))*");
     }
 
+    /** The answer as text: a value, or the simple name of what the call throws. */
+    String answer(Call call) {
+        return Check.answerOf(() -> call(call.name(), call.number(0), call.number(1), call.number(2)));
+    }
+
     /** Answers a call of the face by its name, with at most three arguments. */
-    Object call(String name, int a, int b, int c) {
+    private Object call(String name, int a, int b, int c) {
         if (Set.of("addWaypoint", "addTrail", "removeTrail", "startTour", "stopTour", "update", "setTolerance",
                 "setMode", "charge").contains(name)) {
             State before = now.copy();

@@ -1,4 +1,3 @@
-import java.lang.reflect.InvocationTargetException;
 import java.lang.reflect.Method;
 import java.util.Arrays;
 import java.util.Comparator;
@@ -138,26 +137,8 @@ public final class ModelTest {
     }
 
     private static void compare(int run, TrailGuide guide, Model model, Method method, int a, int b, int c) {
-        String name = method.getName();
-        String want = Check.answerOf(() -> model.call(name, a, b, c));
-        CHECK.due("run " + run + ": " + name + "(" + a + ", " + b + ", " + c + ")", want,
-                () -> invoke(guide, method, a, b, c));
-    }
-
-    private static Object invoke(TrailGuide guide, Method method, int... n) {
-        Object[] arguments = new Object[method.getParameterCount()];
-        for (int i = 0; i < arguments.length; i++) {
-            arguments[i] = method.getParameterTypes()[i] == char.class ? (Object) (char) n[i] : (Object) n[i];
-        }
-        try {
-            return method.invoke(guide, arguments);
-        } catch (InvocationTargetException e) {
-            if (e.getCause() instanceof RuntimeException cause) {
-                throw cause;
-            }
-            throw new AssertionError(e.getCause());
-        } catch (IllegalAccessException e) {
-            throw new AssertionError(e);
-        }
+        Call call = new Call(method.getName(), a, b, c);
+        String want = model.answer(call);
+        CHECK.due("run " + run + ": " + call, want, () -> Player.invoke(guide, method, call));
     }
 }

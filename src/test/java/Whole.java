@@ -16,15 +16,15 @@ final class Whole {
         Player runner = new Player(past);
         rows.add("type: " + runner.answer(Call.of("type('e')")));
         rows.add("run: " + runner.answer(Call.of("run()")));
-        addAll(rows, "run, ", runner.visible());
+        addAll(rows, "run, ", runner.reader().visible());
         Player running = new Player(past);
         rows.add("run at once: " + running.answer(Call.of("run()")));
-        addAll(rows, "run at once, ", running.visible());
+        addAll(rows, "run at once, ", running.reader().visible());
         return rows;
     }
 
     static List<String> withoutBuffer(List<Call> past) {
-        List<String> rows = new ArrayList<>(new Player(past).visible());
+        List<String> rows = new ArrayList<>(new Player(past).reader().visible());
         for (int undone = 1; undone <= MOST_UNDONE + 1; undone++) {
             Player player = new Player(past);
             String answer = "";
@@ -32,11 +32,11 @@ final class Whole {
                 answer = player.answer(Call.of("undo()"));
             }
             rows.add("undo " + undone + ": " + answer);
-            addAll(rows, "undo " + undone + ", ", player.visible());
+            addAll(rows, "undo " + undone + ", ", player.reader().visible());
         }
         Player player = new Player(past);
         rows.add("restore: " + player.answer(Call.of("restore()")));
-        addAll(rows, "restore, ", player.visible());
+        addAll(rows, "restore, ", player.reader().visible());
         return rows;
     }
 
