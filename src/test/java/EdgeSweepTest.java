@@ -6,8 +6,8 @@ import java.util.Map;
 import java.util.TreeMap;
 
 /**
- * Makes every call of the face in every fixture with all arguments at and beside the edges of the ranges, and compares the
- * answer, and the state behind it, with the model.
+ * Makes every call of the face in every fixture with all arguments at and beside the edges of the ranges, and compares
+ * the answer, and the state behind it, with the model.
  */
 public final class EdgeSweepTest {
     private static final int[] EDGES = {Integer.MIN_VALUE, -1, 0, 1, 2, 3, 4, 5, 9, 10, 11, 12, 30, 31, 59, 60, 99, 100,
