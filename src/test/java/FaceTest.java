@@ -7,8 +7,10 @@ import java.nio.file.Files;
 import java.nio.file.Path;
 import java.util.ArrayList;
 import java.util.Arrays;
+import java.util.HashMap;
 import java.util.HashSet;
 import java.util.List;
+import java.util.Map;
 import java.util.Set;
 import java.util.TreeSet;
 import java.util.regex.Matcher;
@@ -24,6 +26,7 @@ public final class FaceTest {
         String document = Files.readString(Path.of(args[1]).resolve("DOC.md"));
         String source = Files.readString(root.resolve("src/main/java/TrailGuide.java"));
         face(document);
+        headers(document, source);
         members();
         insideClasses();
         names();
@@ -56,6 +59,34 @@ public final class FaceTest {
         }
         CHECK.due("the number of members of the face", 53, () -> want.size());
         CHECK.due("the face", want, () -> got);
+    }
+
+    /** The methods stand in the source to the letter and in the document's order, below the document's headings. */
+    private static void headers(String document, String source) {
+        Matcher heading = Pattern.compile("(?m)^Ahead of the calls `(\\w+)`.*: (---- .*)\\.$").matcher(document);
+        Map<String, String> headings = new HashMap<>();
+        while (heading.find()) {
+            headings.put(heading.group(1), "// " + heading.group(2));
+        }
+        CHECK.due("the headings of the face", 8, headings::size);
+        int start = document.indexOf("public final class TrailGuide");
+        Matcher method = Pattern.compile("    (public (?:\\w+ )?(\\w+)\\(.*);")
+                .matcher(document.substring(start, document.indexOf("```", start)));
+        List<String> parts = new ArrayList<>();
+        while (method.find()) {
+            if (headings.containsKey(method.group(2))) {
+                parts.add(headings.get(method.group(2)));
+            }
+            parts.add(method.group(1) + " {");
+        }
+        CHECK.due("the headers and headings of the face", 61, parts::size);
+        String text = source.replaceAll("\\s+", " ");
+        int from = 0;
+        for (String part : parts) {
+            int found = text.indexOf(part, from);
+            CHECK.due("in the source, in its place: " + part, true, () -> found >= 0);
+            from = found < 0 ? from : found + part.length();
+        }
     }
 
     private static String namesOf(Class<?>[] types) {

@@ -42,7 +42,10 @@ public final class ModelTest {
                     compare(run, guide, model, method(face, "type"), text.charAt(i), 0, 0);
                     calls++;
                 }
-                compare(run, guide, model, method(face, "run"), 0, 0, 0);
+                // What an object answers behind its last call is free.
+                if (calls < CALLS) {
+                    compare(run, guide, model, method(face, "run"), 0, 0, 0);
+                }
             } else if (below(10) < changeShare) {
                 compareCall(run, guide, model, method(face, CHANGES[below(CHANGES.length)]));
             } else {

@@ -6,17 +6,22 @@ import java.util.LinkedHashSet;
 import java.util.Map;
 import java.util.Set;
 
-/** The sentences of the document's terms and promises, by the headings of their sections. */
+/** The sentences of what the document says first, of its terms and of its promises, by the headings of their sections. */
 final class Sentences {
     private final Map<String, Set<String>> sections = new LinkedHashMap<>();
 
     Sentences(Path document) throws IOException {
         for (String section : Files.readString(document).split("(?m)^## ")) {
             String heading = section.lines().findFirst().orElse("").strip();
-            if (heading.equals("Terms") || heading.startsWith("Promise ")) {
+            if (isGeneral(heading) || heading.startsWith("Promise ")) {
                 sections.put(heading, sentencesOf(section.substring(heading.length())));
             }
         }
+    }
+
+    /** Whether the section is none of a promise, so that a sentence of it may tell of nothing to test. */
+    static boolean isGeneral(String heading) {
+        return heading.equals("What it is") || heading.equals("Terms");
     }
 
     private static Set<String> sentencesOf(String section) {
