@@ -10,8 +10,8 @@ import java.util.TreeSet;
 import java.util.stream.Stream;
 
 /**
- * Plays the files under src/test/boundaries, in which rows of calls stand below each sentence of the document, and tests
- * that no sentence lacks its rows. README.md tells the form of the files.
+ * Plays the files under src/test/boundaries, in which rows of calls stand below each sentence of the document, and
+ * tests that no sentence lacks its rows. README.md tells the form of the files.
  */
 public final class BoundaryTest {
     private static final Check CHECK = new Check();

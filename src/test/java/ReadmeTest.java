@@ -74,8 +74,8 @@ public final class ReadmeTest {
     }
 
     private static void calls(String readme, String document) {
-        List<String> want = Pattern.compile("(?m)^    public \\w+ (\\w+)\\((.*?)\\)(?: throws (.*?))?;").matcher(document)
-                .results().map(call -> call.group(1) + "(" + namesIn(call.group(2)) + ") "
+        List<String> want = Pattern.compile("(?m)^    public \\w+ (\\w+)\\((.*?)\\)(?: throws (.*?))?;")
+                .matcher(document).results().map(call -> call.group(1) + "(" + namesIn(call.group(2)) + ") "
                         + String.valueOf(call.group(3)).replace("null", "").replaceAll("\\w+\\.", "")).toList();
         List<String> got = Pattern.compile("(?m)^\\| `(\\w+\\(.*?\\))` \\| [^|]+ \\| (.*?) ?\\|$").matcher(readme)
                 .results().map(row -> row.group(1) + " " + inFull(readme, row.group(2))).toList();

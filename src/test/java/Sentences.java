@@ -6,7 +6,7 @@ import java.util.LinkedHashSet;
 import java.util.Map;
 import java.util.Set;
 
-/** The sentences of what the document says first, of its terms and of its promises, by the headings of their sections. */
+/** The sentences of what the document says first, of its terms and of its promises, by their sections' headings. */
 final class Sentences {
     private final Map<String, Set<String>> sections = new LinkedHashMap<>();
 
